@@ -720,7 +720,10 @@ public final class LazyRangeTree {
 
         /** Puts its element into a leaf. */
         private void plant(int node) {
-            int index = firstUnder(node);
+            if (node < 1 || node >= NODES) {
+                return;
+            }
+            int index = firsts[node];
             if (index >= 0 && index < MOST_ELEMENTS) {
                 sums[node] = values[index];
                 lows[node] = values[index];
@@ -788,7 +791,7 @@ public final class LazyRangeTree {
         }
 
         boolean isMarked(int node) {
-            return factorAt(node) != 1 || offsetAt(node) != 0;
+            return node >= 1 && node < NODES && (factors[node] != 1 || offsets[node] != 0);
         }
 
         int leafAt(int index) {
@@ -833,15 +836,15 @@ public final class LazyRangeTree {
             for (int node = 1; node < NODES; node++) {
                 int index = firsts[node];
                 if (index >= 0 && index < MOST_ELEMENTS && index == lasts[node]) {
-                    values[index] = lowUnderMarks(node);
+                    values[index] = underMarksAbove(node, lows[node]);
                 }
             }
         }
 
-        private int lowUnderMarks(int leaf) {
-            int value = lowAt(leaf);
-            for (int above = leaf / 2; above >= 1; above /= 2) {
-                value = factorAt(above) * value + offsetAt(above);
+        private int underMarksAbove(int leaf, int stored) {
+            int value = stored;
+            for (int above = leaf / 2; above >= 1 && above < NODES; above /= 2) {
+                value = factors[above] * value + offsets[above];
             }
             return value;
         }
@@ -891,9 +894,9 @@ public final class LazyRangeTree {
         boolean isMarkedFromAbove(int node) {
             int factor = 1;
             int offset = 0;
-            for (int above = node; above >= 1; above /= 2) {
-                factor = factorAt(above) * factor;
-                offset = factorAt(above) * offset + offsetAt(above);
+            for (int above = node; above >= 1 && above < NODES; above /= 2) {
+                factor = factors[above] * factor;
+                offset = factors[above] * offset + offsets[above];
             }
             return factor != 1 || offset != 0;
         }
