@@ -61,6 +61,11 @@ public final class RangesTest {
         Due.due("least(0, 9)", x.least(0, 9), -8);
         Due.due("least(5, 8)", x.least(5, 8), 2);
         Due.due("least(9, 9)", x.least(9, 9), -5);
+        Due.due("least(5, 9)", x.least(5, 9), -5);
+        Due.due("least(0, 1)", x.least(0, 1), -4);
+        Due.due("least(0, 2)", x.least(0, 2), -8);
+        Due.due("greatest(5, 7)", x.greatest(5, 7), 6);
+        Due.due("greatest(5, 8)", x.greatest(5, 8), 10);
         Due.due("greatest(0, 9)", x.greatest(0, 9), 10);
         Due.due("greatest(0, 4)", x.greatest(0, 4), 1);
         Due.due("greatest(2, 4)", x.greatest(2, 4), -7);
@@ -74,6 +79,7 @@ public final class RangesTest {
         Due.due("firstLeast(0, 7)", x.firstLeast(0, 7), 1);
         Due.due("firstLeast(2, 7)", x.firstLeast(2, 7), 3);
         Due.due("firstLeast(4, 5)", x.firstLeast(4, 5), 4);
+        Due.due("firstLeast(4, 6)", x.firstLeast(4, 6), 6);
         Due.due("firstGreatest(0, 7)", x.firstGreatest(0, 7), 0);
         Due.due("firstGreatest(3, 7)", x.firstGreatest(3, 7), 5);
         Due.due("firstGreatest(3, 4)", x.firstGreatest(3, 4), 4);

@@ -57,6 +57,11 @@ public final class ScriptTest {
         Due.due("updateCount()", x.updateCount(), 2);
         Due.due("pushCount()", x.pushCount(), 1);
         Due.due("appliedCount()", x.appliedCount(), 2);
+        Due.run(x, "sequence 1 2; negate 0 0; oops");
+        Due.due("runScript()", Due.run(x, "sequence 1 2 3; negate 0 2;"), 3);
+        Due.due("updateCount()", x.updateCount(), 1);
+        Due.due("pushCount()", x.pushCount(), 0);
+        Due.due("appliedCount()", x.appliedCount(), 1);
     }
 
     private static void promise4AnErrorKeepsAll() {
@@ -149,6 +154,8 @@ public final class ScriptTest {
         fails("sequence 1;(settle;);", 1, 11);
         fails("sequence 1;addd 0 0 1;", 1, 11);
         fails("sequence 1;ad 0 0 1;", 1, 11);
+        fails("sequence 1;addz 0 0 1;", 1, 11);
+        fails("sequence 1;adda 0 0 1;", 1, 11);
         fails("sequence 1;settle", 1, 17);
         fails("sequence 1;settle ", 1, 18);
         fails("sequence 1;settle 1;", 1, 18);

@@ -10,6 +10,7 @@ public final class SearchesTest {
         promise37();
         promise38();
         promise39();
+        removedElementsAreNotFound();
         Due.close();
     }
 
@@ -100,6 +101,24 @@ public final class SearchesTest {
         Due.due("prefixAtLeast(highest)", x.prefixAtLeast(Long.MAX_VALUE), -1);
         Due.due("prefixAtLeast(2 to the 32nd)", x.prefixAtLeast(1L << 32), -1);
         Due.due("prefixAtLeast(less than every int)", x.prefixAtLeast(-(1L << 32) + 5), 0);
+    }
+
+    private static void removedElementsAreNotFound() {
+        LazyRangeTree x = Due.made("sequence 3 3 3;append 9;append -9;");
+        Due.due("firstAtLeast(0, 9)", x.firstAtLeast(0, 9), 3);
+        Due.due("firstBelow(0, 0)", x.firstBelow(0, 0), 4);
+        x.removeLast();
+        Due.due("firstBelow(0, 0)", x.firstBelow(0, 0), -1);
+        Due.due("occurrence(-9, 0)", x.occurrence(-9, 0), -1);
+        Due.due("longestRun(-9)", x.longestRun(-9), 0);
+        x.removeLast();
+        Due.due("firstAtLeast(0, 9)", x.firstAtLeast(0, 9), -1);
+        Due.due("lastAtLeast(2, 9)", x.lastAtLeast(2, 9), -1);
+        Due.due("occurrence(9, 0)", x.occurrence(9, 0), -1);
+        Due.due("longestRun(9)", x.longestRun(9), 0);
+        Due.due("prefixAtLeast(10)", x.prefixAtLeast(10), -1);
+        Due.due("prefixAtLeast(9)", x.prefixAtLeast(9), 2);
+        Due.due("totalIfAssigned(0, 0, 1)", x.totalIfAssigned(0, 0, 1), 7L);
     }
 
     private static void promise39() {
