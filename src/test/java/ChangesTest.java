@@ -15,19 +15,6 @@ public final class ChangesTest {
         Due.close();
     }
 
-    private static String marks(LazyRangeTree x) {
-        StringBuilder all = new StringBuilder();
-        for (int node = 1; node < 128; node++) {
-            int number = node;
-            if (Due.outcome(() -> x.markFactor(number)) instanceof Integer
-                    && (x.markFactor(node) != 1 || x.markOffset(node) != 0)) {
-                all.append(all.length() == 0 ? "" : " ").append(node).append(':')
-                        .append(x.markFactor(node)).append(',').append(x.markOffset(node));
-            }
-        }
-        return all.toString();
-    }
-
     private static void promise5() {
         LazyRangeTree x = Due.made("sequence 1 2 3 4 5;");
         Due.due("assign(1, 3, -8)", x.assign(1, 3, -8), 3);
@@ -108,19 +95,19 @@ public final class ChangesTest {
     private static void updatesLeaveMarks() {
         LazyRangeTree x = Due.made("sequence 1 2 3 4 5 6 7 8;");
         Due.due("add(1, 6, 10)", x.add(1, 6, 10), 4);
-        Due.due("marks", marks(x), "5:1,10 6:1,10");
+        Due.due("marks", Due.marks(x), "5:1,10 6:1,10");
         Due.due("storedSum(1)", x.storedSum(1), 96L);
         Due.due("storedSum(5)", x.storedSum(5), 27L);
         Due.due("storedSum(10)", x.storedSum(10), 3L);
         Due.due("negate(0, 7)", x.negate(0, 7), 1);
         Due.due("assign(2, 3, 4)", x.assign(2, 3, 4), 1);
-        Due.due("marks", marks(x), "3:-1,0 4:-1,0 5:0,4 6:1,10");
+        Due.due("marks", Due.marks(x), "3:-1,0 4:-1,0 5:0,4 6:1,10");
         Due.due("storedSum(2)", x.storedSum(2), -5L);
         Due.due("storedSum(3)", x.storedSum(3), -56L);
         Due.due("storedSum(6)", x.storedSum(6), 31L);
         Due.due("pushCount()", x.pushCount(), 2);
         Due.due("add(4, 4, 1)", x.add(4, 4, 1), 1);
-        Due.due("marks", marks(x), "4:-1,0 5:0,4 7:-1,0");
+        Due.due("marks", Due.marks(x), "4:-1,0 5:0,4 7:-1,0");
         Due.due("pushCount()", x.pushCount(), 4);
         Due.due("elements", Due.elements(x), "-1 -12 4 4 -14 -16 -17 -8");
     }
@@ -128,24 +115,24 @@ public final class ChangesTest {
     private static void marksCombine() {
         LazyRangeTree x = Due.made("sequence 1 2;");
         x.add(0, 1, 5);
-        Due.due("marks", marks(x), "1:1,5");
+        Due.due("marks", Due.marks(x), "1:1,5");
         x.negate(0, 1);
-        Due.due("marks", marks(x), "1:-1,-5");
+        Due.due("marks", Due.marks(x), "1:-1,-5");
         x.add(0, 1, 7);
-        Due.due("marks", marks(x), "1:-1,2");
+        Due.due("marks", Due.marks(x), "1:-1,2");
         x.negate(0, 1);
-        Due.due("marks", marks(x), "1:1,-2");
+        Due.due("marks", Due.marks(x), "1:1,-2");
         x.add(0, 1, 2);
-        Due.due("marks", marks(x), "");
+        Due.due("marks", Due.marks(x), "");
         x.assign(0, 1, 0);
-        Due.due("marks", marks(x), "1:0,0");
+        Due.due("marks", Due.marks(x), "1:0,0");
         x.add(0, 1, 3);
         x.negate(0, 1);
-        Due.due("marks", marks(x), "1:0,-3");
+        Due.due("marks", Due.marks(x), "1:0,-3");
         Due.due("storedLeast(2)", x.storedLeast(2), 1);
         Due.due("elements", Due.elements(x), "-3 -3");
         x.assign(0, 1, 9);
-        Due.due("marks", marks(x), "1:0,9");
+        Due.due("marks", Due.marks(x), "1:0,9");
     }
 
     private static void promise8() {
@@ -153,13 +140,13 @@ public final class ChangesTest {
         Due.due("pushDown(2)", x.pushDown(2), false);
         Due.due("pushCount()", x.pushCount(), 0);
         Due.due("pushDown(1)", x.pushDown(1), true);
-        Due.due("marks", marks(x), "2:-1,-4");
+        Due.due("marks", Due.marks(x), "2:-1,-4");
         Due.due("storedSum(2)", x.storedSum(2), -11L);
         Due.due("storedSum(3)", x.storedSum(3), -7L);
         Due.due("storedSum(4)", x.storedSum(4), 1L);
         Due.due("pushDown(1)", x.pushDown(1), false);
         Due.due("pushDown(2)", x.pushDown(2), true);
-        Due.due("marks", marks(x), "");
+        Due.due("marks", Due.marks(x), "");
         Due.due("storedSum(4)", x.storedSum(4), -5L);
         Due.due("storedSum(5)", x.storedSum(5), -6L);
         Due.due("pushCount()", x.pushCount(), 2);
@@ -178,9 +165,9 @@ public final class ChangesTest {
 
     private static void promise9() {
         LazyRangeTree x = Due.made("sequence 1 2 3 4 5;add 0 2 4;negate 0 4;add 3 3 2;");
-        Due.due("marks", marks(x), "2:-1,-4");
+        Due.due("marks", Due.marks(x), "2:-1,-4");
         Due.due("pushAll()", x.pushAll(), 2);
-        Due.due("marks", marks(x), "");
+        Due.due("marks", Due.marks(x), "");
         Due.due("pushCount()", x.pushCount(), 4);
         Due.due("elements", Due.elements(x), "-5 -6 -7 -2 -5");
         Due.due("pushAll()", x.pushAll(), 0);
@@ -189,7 +176,7 @@ public final class ChangesTest {
         Due.due("pushAll()", x.pushAll(), 4);
         Due.due("storedSum(8)", x.storedSum(8), 1L);
         LazyRangeTree cancel = Due.made("sequence 1 2 3;negate 0 1;negate 0 2;");
-        Due.due("marks", marks(cancel), "1:-1,0 2:-1,0");
+        Due.due("marks", Due.marks(cancel), "1:-1,0 2:-1,0");
         Due.due("pushAll()", cancel.pushAll(), 1);
         Due.due("storedSum(4)", cancel.storedSum(4), 1L);
         Due.due("elements", Due.elements(cancel), "1 2 -3");
@@ -201,7 +188,7 @@ public final class ChangesTest {
         LazyRangeTree x = Due.made("sequence 1 2 3;add 0 2 4;negate 0 1;");
         Due.due("appendElement(-9999)", x.appendElement(-9999), 4);
         Due.due("elements", Due.elements(x), "-5 -6 7 -9999");
-        Due.due("marks", marks(x), "");
+        Due.due("marks", Due.marks(x), "");
         Due.due("storedSum(4)", x.storedSum(4), -5L);
         Due.due("nodeCount()", x.nodeCount(), 7);
         Due.due("updateCount()", x.updateCount(), 2);
@@ -228,7 +215,7 @@ public final class ChangesTest {
         LazyRangeTree x = Due.made("sequence 1 2 3 4;add 0 3 4;negate 2 3;");
         Due.due("removeLast()", x.removeLast(), -8);
         Due.due("elements", Due.elements(x), "5 6 -7");
-        Due.due("marks", marks(x), "");
+        Due.due("marks", Due.marks(x), "");
         Due.due("storedSum(4)", x.storedSum(4), 5L);
         Due.due("nodeCount()", x.nodeCount(), 5);
         Due.due("updateCount()", x.updateCount(), 2);

@@ -20,6 +20,14 @@ final class Due {
         }
     }
 
+    static int asked() {
+        return asked;
+    }
+
+    static int wrong() {
+        return wrong;
+    }
+
     static void dueIndex(String call, Call run) {
         due(call, outcome(run), "throws IndexOutOfBoundsException");
     }
@@ -101,11 +109,48 @@ final class Due {
         return all.toString();
     }
 
+    /** What can be asked of the elements, the nodes, the marks and the counters: all that undo restores. */
+    static String state(LazyRangeTree x) {
+        StringBuilder all = new StringBuilder(elements(x));
+        int left = x.nodeCount();
+        for (int node = 1; left > 0 && node < 128; node++) {
+            int number = node;
+            if (outcome(() -> x.isLeaf(number)) instanceof Boolean) {
+                left--;
+                all.append("; ").append(node).append(' ').append(x.firstIndex(node)).append(' ').append(x.lastIndex(node))
+                        .append(' ').append(x.storedSum(node)).append(' ').append(x.storedLeast(node))
+                        .append(' ').append(x.storedGreatest(node)).append(' ').append(x.markFactor(node))
+                        .append(' ').append(x.markOffset(node));
+            }
+        }
+        return all.append("; ").append(x.updateCount()).append(' ').append(x.pushCount())
+                .append(' ').append(x.appliedCount()).toString();
+    }
+
+    /** The marks that are not empty, as NODE:FACTOR,OFFSET. */
+    static String marks(LazyRangeTree x) {
+        StringBuilder all = new StringBuilder();
+        int left = x.nodeCount();
+        for (int node = 1; left > 0 && node < 128; node++) {
+            int number = node;
+            if (outcome(() -> x.markFactor(number)) instanceof Integer) {
+                left--;
+                if (x.markFactor(node) != 1 || x.markOffset(node) != 0) {
+                    all.append(all.length() == 0 ? "" : " ").append(node).append(':')
+                            .append(x.markFactor(node)).append(',').append(x.markOffset(node));
+                }
+            }
+        }
+        return all.toString();
+    }
+
     /** The report as a text, by way of reportByte(). */
     static String report(LazyRangeTree x) {
         StringBuilder all = new StringBuilder();
-        for (int i = 0; x.reportByte(i) != LazyRangeTree.NONE; i++) {
-            all.append((char) x.reportByte(i));
+        int next = x.reportByte(0);
+        while (next != LazyRangeTree.NONE && all.length() < 1000) {
+            all.append((char) next);
+            next = x.reportByte(all.length());
         }
         return all.toString();
     }

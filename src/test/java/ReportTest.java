@@ -38,10 +38,10 @@ public final class ReportTest {
         }
         writes(x, 0, 39, text.toString());
         Due.due("reportByte(358)", x.reportByte(358), (int) '0');
-        x.negate(3, 3);
-        writes(x, 3, 4, "1000000,-1000000");
-        x.add(3, 3, -1);
-        writes(x, 3, 3, "999999");
+        LazyRangeTree far = Edges.atTheLimits();
+        writes(far, 0, 1, "1000000,-1000000");
+        far.add(0, 0, -1);
+        writes(far, 0, 0, "999999");
     }
 
     private static void promise65() {

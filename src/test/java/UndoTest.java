@@ -11,22 +11,6 @@ public final class UndoTest {
         Due.close();
     }
 
-    private static String whole(LazyRangeTree x) {
-        StringBuilder all = new StringBuilder(Due.elements(x));
-        for (int node = 1; node < 128; node++) {
-            int number = node;
-            all.append(' ').append(Due.outcome(() -> x.storedSum(number)));
-            all.append(' ').append(Due.outcome(() -> x.storedLeast(number)));
-            all.append(' ').append(Due.outcome(() -> x.storedGreatest(number)));
-            all.append(' ').append(Due.outcome(() -> x.markFactor(number)));
-            all.append(' ').append(Due.outcome(() -> x.markOffset(number)));
-            all.append(' ').append(Due.outcome(() -> x.firstIndex(number)));
-            all.append(' ').append(Due.outcome(() -> x.lastIndex(number)));
-        }
-        return all.append(' ').append(x.updateCount()).append(' ').append(x.pushCount())
-                .append(' ').append(x.appliedCount()).toString();
-    }
-
     private static void promise12() {
         LazyRangeTree x = new LazyRangeTree();
         Due.due("undo()", x.undo(), -1);
@@ -50,27 +34,25 @@ public final class UndoTest {
         Due.due("element(0)", x.element(0), 4);
     }
 
+    private interface Change {
+        Object on(LazyRangeTree x);
+    }
+
     private static void promise12EveryChange() {
-        LazyRangeTree x = new LazyRangeTree();
-        Runnable[] changes = {() -> Due.run(x, "sequence 4 5 6;negate 0 1;"), () -> x.assign(0, 1, 3), () -> x.add(1, 2, 4),
-            () -> x.negate(0, 1), () -> x.pushDown(1), () -> x.pushDown(1), () -> x.pushAll(), () -> x.pushAll(),
-            () -> x.appendElement(4), () -> x.removeLast()};
-        String[] before = new String[changes.length];
-        for (int i = 0; i < changes.length; i++) {
-            before[i] = whole(x);
-            changes[i].run();
-            Due.due("undoCount()", x.undoCount(), Math.min(i + 1, 8));
+        Change[] changes = {x -> Due.run(x, "sequence 4 5 6;negate 0 1;"), x -> x.assign(0, 1, 3), x -> x.add(1, 2, 4),
+            x -> x.negate(0, 1), x -> x.pushDown(1), x -> x.pushDown(1), LazyRangeTree::pushAll, LazyRangeTree::pushAll,
+            x -> x.appendElement(4), LazyRangeTree::removeLast};
+        for (int last = 0; last < changes.length; last++) {
+            LazyRangeTree x = new LazyRangeTree();
+            for (int i = 0; i < last; i++) {
+                changes[i].on(x);
+            }
+            String before = Due.state(x);
+            changes[last].on(x);
+            Due.due("undoCount()", x.undoCount(), Math.min(last + 1, 8));
+            Due.due("undo()", x.undo(), Math.min(last, 7));
+            Due.due("all after undo", Due.state(x), before);
         }
-        for (int i = changes.length - 1; i >= 2; i--) {
-            Due.due("undo()", x.undo(), i - 2);
-            Due.due("all after undo", whole(x), before[i]);
-        }
-        Due.due("undo()", x.undo(), -1);
-        LazyRangeTree y = new LazyRangeTree();
-        String fresh = whole(y);
-        Due.run(y, "sequence 4 5 6;negate 0 1;");
-        Due.due("undo() of a script", y.undo(), 0);
-        Due.due("all after undo of a script", whole(y), fresh);
     }
 
     private static void promise12RestoresMarksAndCounters() {
@@ -127,45 +109,45 @@ public final class UndoTest {
     }
 
     private static void promise14() {
-        LazyRangeTree x = new LazyRangeTree();
-        String first = whole(x);
-        Due.due("saveSnapshot()", x.saveSnapshot(), 10);
-        Due.due("a snapshot is no change", x.undoCount(), 0);
+        LazyRangeTree x = Due.made("sequence 1 2 3 4 5 6;add 0 3 2;");
+        String first = Due.state(x);
+        Due.due("saveSnapshot()", x.saveSnapshot(), 6);
+        Due.due("a snapshot is no change", x.undoCount(), 1);
         x.negate(1, 4);
         x.removeLast();
-        String second = whole(x);
-        Due.due("restoreSnapshot()", x.restoreSnapshot(), 10);
-        Due.due("all", whole(x), first);
+        String second = Due.state(x);
+        Due.due("restoreSnapshot()", x.restoreSnapshot(), 6);
+        Due.due("all", Due.state(x), first);
         x.negate(1, 4);
         x.removeLast();
-        Due.due("saveSnapshot()", x.saveSnapshot(), 9);
-        Due.due("all is as it was", whole(x), second);
+        Due.due("saveSnapshot()", x.saveSnapshot(), 5);
+        Due.due("all is as it was", Due.state(x), second);
         Due.due("undoCount()", x.undoCount(), 2);
         Due.run(x, "sequence 1;");
-        Due.due("restoreSnapshot()", x.restoreSnapshot(), 9);
-        Due.due("all of the later snapshot", whole(x), second);
+        Due.due("restoreSnapshot()", x.restoreSnapshot(), 5);
+        Due.due("all of the later snapshot", Due.state(x), second);
     }
 
     private static void promise15() {
-        LazyRangeTree x = new LazyRangeTree();
+        LazyRangeTree x = Due.made("sequence 4 5 6 7;add 0 1 2;");
         x.negate(0, 3);
         Due.dueNoSuch("restoreSnapshot()", () -> x.restoreSnapshot());
-        Due.due("undoCount()", x.undoCount(), 1);
+        Due.due("undoCount()", x.undoCount(), 2);
         x.saveSnapshot();
-        String saved = whole(x);
-        x.assign(0, 9, 4);
-        Due.due("restoreSnapshot()", x.restoreSnapshot(), 10);
-        Due.due("all", whole(x), saved);
+        String saved = Due.state(x);
+        x.assign(0, 3, 4);
+        Due.due("restoreSnapshot()", x.restoreSnapshot(), 4);
+        Due.due("all", Due.state(x), saved);
         Due.due("undoCount()", x.undoCount(), 0);
         Due.due("undo()", x.undo(), -1);
-        x.assign(0, 9, 5);
+        x.assign(0, 3, 5);
         Due.due("undoCount()", x.undoCount(), 1);
-        Due.due("restoreSnapshot() again", x.restoreSnapshot(), 10);
-        Due.due("all", whole(x), saved);
+        Due.due("restoreSnapshot() again", x.restoreSnapshot(), 4);
+        Due.due("all", Due.state(x), saved);
         x.writeRange(0, 0);
         x.append(1, 2, 3, 4, 5);
         x.restoreSnapshot();
-        Due.due("report", Due.report(x), "4");
+        Due.due("report", Due.report(x), "-6");
         Due.due("truncateInput(20)", x.truncateInput(20), 20);
     }
 }
