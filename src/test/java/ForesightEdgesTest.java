@@ -11,6 +11,7 @@ public final class ForesightEdgesTest {
         visitedFor();
         pushesFor();
         canAdd();
+        canAddWhereverTheElementStands();
         greatestAddition();
         totalIfAssigned();
     }
@@ -181,6 +182,54 @@ public final class ForesightEdgesTest {
         });
     }
 
+    private static void canAddWhereverTheElementStands() {
+        Edges.of(57, "Tells whether an amount can be added to a range.", () -> {
+            for (int sign = -1; sign <= 1; sign += 2) {
+                for (int place = 0; place < 5; place++) {
+                    LazyRangeTree x = oneAtTheLimit(place, sign);
+                    for (int from = 0; from < 5; from++) {
+                        for (int to = from; to < 5; to++) {
+                            boolean inside = from <= place && place <= to;
+                            String name = "canAdd(" + from + ", " + to + ", .), at the limit is " + place;
+                            Due.due(name, x.canAdd(from, to, sign), !inside);
+                            Due.due(name, x.canAdd(from, to, -sign), true);
+                            Due.due(name, x.canAdd(from, to, 0), true);
+                        }
+                    }
+                }
+            }
+        });
+        Edges.of(Edges.TERMS, "An update by adding is refused if an element would become less than -1000000 or greater than 1000000.", () -> {
+            for (int sign = -1; sign <= 1; sign += 2) {
+                for (int place = 0; place < 5; place++) {
+                    LazyRangeTree x = oneAtTheLimit(place, sign);
+                    for (int from = 0; from < 5; from++) {
+                        for (int to = from; to < 5; to++) {
+                            dueAdd(x, from, to, sign, from <= place && place <= to);
+                        }
+                    }
+                }
+            }
+        });
+    }
+
+    private static void dueAdd(LazyRangeTree x, int from, int to, int amount, boolean refused) {
+        Object got = Due.outcome(() -> x.add(from, to, amount));
+        Due.due("add(" + from + ", " + to + ", " + amount + ") to " + Due.elements(x), got,
+                refused ? "throws IllegalStateException" : Edges.applied(5, from, to).size());
+        if (got instanceof Integer) {
+            x.undo();
+        }
+    }
+
+    /** Five elements, of which the one at the place is 1000000 or -1000000. */
+    private static LazyRangeTree oneAtTheLimit(int place, int sign) {
+        int[] values = {5, 5, 5, 5, 5};
+        values[place] = sign * 9999;
+        String range = place + " " + place + " ";
+        return Due.made(Edges.script(values) + "repeat 9(repeat 11(add " + range + sign * 9999 + ";););add " + range + sign * 100 + ";");
+    }
+
     private static void greatestAddition() {
         RangeEdges.of(58, "greatestAddition", LazyRangeTree::greatestAddition, (v, from, to) -> 9999);
         Edges.of(58, "Returns the amount, 9999 at most.", () -> {
@@ -198,6 +247,14 @@ public final class ForesightEdgesTest {
             }
         });
         Edges.of(58, "Returns the greatest amount that can be added to a range.", () -> {
+            LazyRangeTree y = Edges.atTheLimits();
+            y.add(0, 0, -2);
+            y.negate(1, 1);
+            y.add(1, 1, -1);
+            Due.due("greatestAddition(0, 2), the greatest one in the middle", y.greatestAddition(0, 2), 1);
+            Due.due("greatestAddition(0, 1), the greatest one at the end", y.greatestAddition(0, 1), 1);
+            Due.due("greatestAddition(0, 0), the greatest one behind the range", y.greatestAddition(0, 0), 2);
+            Due.due("greatestAddition(2, 2), the greatest one before the range", y.greatestAddition(2, 2), 9999);
             LazyRangeTree x = Edges.atTheLimits();
             x.add(0, 0, -37);
             int amount = x.greatestAddition(0, 1);

@@ -176,6 +176,10 @@ public final class ScriptEdgesTest {
             fails("sequence 1;Settle;", 1, 11);
             fails("sequence 1;settlE;", 1, 11);
             fails("sequence 1;settle`;", 1, 17);
+            fails("sequence 1;settleA;", 1, 17);
+            fails("sequence 1;settleZ;", 1, 17);
+            fails("sequence 1;settle1;", 1, 17);
+            fails("sequenceA 1;", 1, 8);
             fails("sequence 1;settle{;", 1, 17);
             fails("sequence 1;settlea;", 1, 11);
             fails("sequence 1;settlez;", 1, 11);
@@ -534,6 +538,12 @@ public final class ScriptEdgesTest {
             makes(to999900 + "add 0 0 100;add 0 0 0;add 0 0 -1;", "999999");
             makes(to999900 + "append 5;add 1 1 101;", "999900 106");
             fails(to999900 + "append 5;add 0 1 101;", 4, to999900.length() + 20);
+            String lastOf3 = "sequence 5 5 9999;repeat 9(repeat 11(add 2 2 9999;););";
+            makes(lastOf3 + "add 0 2 100;", "105 105 1000000");
+            fails(lastOf3 + "add 0 2 101;", 4, lastOf3.length() + 11);
+            makes(lastOf3 + "add 0 1 101;", "106 106 999900");
+            makes(lastOf3 + "negate 2 2;add 0 2 -100;", "-95 -95 -1000000");
+            fails(lastOf3 + "negate 2 2;add 0 2 -101;", 4, lastOf3.length() + 23);
         });
         terms(words, () -> {
             fails("sequence 1;push 1;", 4, 17);
